@@ -2,8 +2,8 @@ import java.util.Random;
 
 /** Long runs of calls, the same each time, on CordBoard and on the model: all answers must agree. */
 public final class ModelTest {
-    private static final int RUNS = 4000;
-    private static final int CALLS = 511;
+    private static final int RUNS = 8000;
+    private static final int CALLS = 256;
     private static final long[] EDGES = {0, 1, -1, 127, 128, -128, 255, 32767, 32768, 65535, 65536, 16777217,
         -16777219, Integer.MAX_VALUE, Integer.MIN_VALUE, Long.MAX_VALUE, Long.MIN_VALUE, 9007199254740993L,
         0x7F800000L, 0xFF800000L, 0x7F800001L, 0x80000000L, 0x00000001L, 0x007FFFFFL, 0x3FC00000L,

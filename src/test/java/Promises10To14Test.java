@@ -71,6 +71,13 @@ public final class Promises10To14Test {
         }
     }
 
+    static void promise10_unknownAheadOfCauses() {
+        Desks.unchanged("into nothing", x -> x.lay(9, 0, 2), UNKNOWN);
+        Desks.unchanged("into a knob itself", x -> x.lay(5, 0, 2), UNKNOWN);
+        Desks.unchanged("at no place", x -> x.lay(0, 3, -2), UNKNOWN);
+        Desks.unchanged("into a track", x -> x.lay(4, 0, 2), UNKNOWN);
+    }
+
     static void promise10_causeEmpty() {
         Desks.unchanged("a knob", x -> x.lay(9, 0, 0), EMPTY);
         Desks.unchanged("nothing", x -> x.lay(9, 0, NONE), EMPTY);
@@ -177,6 +184,19 @@ public final class Promises10To14Test {
             Desks.unchanged("row(2, 0, " + n + ")", x -> x.row(2, 0, n), OUTSIDE);
             Desks.unchanged("row(3, 0, " + n + ")", x -> x.row(3, 0, n), OUTSIDE);
         }
+    }
+
+    static void promise11_unknownAheadOfOutside() {
+        for (int socket : Desks.NO_SOCKETS) {
+            Desks.unchanged("row(" + socket + ", 0, 17)", x -> x.row(socket, 0, 17), UNKNOWN);
+        }
+    }
+
+    static void promise11_outsideAheadOfCauses() {
+        Desks.unchanged("into nothing", x -> x.row(9, 0, 17), OUTSIDE);
+        Desks.unchanged("into a knob itself", x -> x.row(5, 0, -1), OUTSIDE);
+        Desks.unchanged("at no place", x -> x.row(2, 3, 17), OUTSIDE);
+        Desks.unchanged("into a strip", x -> x.row(0, 0, -1), OUTSIDE);
     }
 
     static void promise11_causeEmpty() {
@@ -306,6 +326,25 @@ public final class Promises10To14Test {
         }
     }
 
+    static void promise13_unknownAheadOfOutside() {
+        for (int socket : Desks.NO_SOCKETS) {
+            Desks.unchanged("inner(" + socket + ", 0, 0, 8)", x -> x.inner(socket, 0, 0, 8), UNKNOWN);
+        }
+    }
+
+    static void promise13_outsideAheadOfCauses() {
+        Desks.unchanged("of nothing", x -> x.inner(9, 0, 0, 8), OUTSIDE);
+        Desks.unchanged("at no place", x -> x.inner(2, 3, 0, -1), OUTSIDE);
+        Desks.unchanged("where nothing stands", x -> x.inner(2, 2, 0, 8), OUTSIDE);
+        Desks.unchanged("at no place of the row", x -> x.inner(2, 0, 2, 8), OUTSIDE);
+    }
+
+    static void promise13_causeOfTakeAheadOfTheOnesOfRead() {
+        Desks.unchanged("no place, and none of the row", x -> x.inner(2, 3, -1, 0), PLACE);
+        Desks.unchanged("a knob itself, and no place", x -> x.inner(5, 0, -1, 4), WRONG);
+        Desks.unchanged("no place of a track", x -> x.inner(4, 3, 0, 4), PLACE);
+    }
+
     static void promise13_causeOfTakeEmpty() {
         Desks.unchanged("inner(9, 0, 0, 4)", x -> x.inner(9, 0, 0, 4), EMPTY);
     }
@@ -418,6 +457,26 @@ public final class Promises10To14Test {
         Desks.unchanged("a float", x -> x.enter(3, 0, 0, 6, Desks.FLOAT_NAN), OUTSIDE);
         Desks.unchanged("a double", x -> x.enter(3, 0, 0, 7, Desks.DOUBLE_NAN), OUTSIDE);
         Desks.unchanged("what would have a cause too", x -> x.enter(9, 0, 0, 7, -1), OUTSIDE);
+    }
+
+    static void promise14_unknownAheadOfOutside() {
+        for (int socket : Desks.NO_SOCKETS) {
+            Desks.unchanged("and no kind", x -> x.enter(socket, 0, 0, 8, 5), UNKNOWN);
+            Desks.unchanged("and no number", x -> x.enter(socket, 0, 0, 7, Desks.DOUBLE_NAN), UNKNOWN);
+        }
+    }
+
+    static void promise14_outsideAheadOfCauses() {
+        Desks.unchanged("no kind into nothing", x -> x.enter(9, 0, 0, 8, 5), OUTSIDE);
+        Desks.unchanged("no number at no place", x -> x.enter(3, 3, 0, 7, Desks.DOUBLE_NAN), OUTSIDE);
+        Desks.unchanged("no number where nothing stands", x -> x.enter(3, 2, 0, 6, Desks.FLOAT_NAN), OUTSIDE);
+        Desks.unchanged("no number that does not go", x -> x.enter(2, 0, 0, 6, Desks.FLOAT_NAN), OUTSIDE);
+    }
+
+    static void promise14_causeOfTakeAheadOfTheOnesOfWrite() {
+        Desks.unchanged("no place, and none of the row", x -> x.enter(2, 3, -1, 0, 0), PLACE);
+        Desks.unchanged("a knob itself, and no place", x -> x.enter(5, 0, -1, 4, 0), WRONG);
+        Desks.unchanged("no place of a track", x -> x.enter(4, 3, 0, 4, 5), PLACE);
     }
 
     static void promise14_causeOfTakeEmpty() {

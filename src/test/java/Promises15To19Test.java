@@ -82,6 +82,25 @@ public final class Promises15To19Test {
         }
     }
 
+    static void promise15_unknownAheadOfOutside() {
+        for (int socket : Desks.NO_SOCKETS) {
+            Desks.unchanged("from, and steps", x -> x.cable(socket, 0, 5, 0, 0, -5, 0, 0), UNKNOWN);
+            Desks.unchanged("to, and way and rule", x -> x.cable(0, 0, 0, socket, 0, 0, 8, 3), UNKNOWN);
+        }
+    }
+
+    static void promise15_unknownAheadOfFull() {
+        Desks.unchangedWhenFull("from", x -> x.cable(10, 0, 0, 0, 0, 0, 0, 0), UNKNOWN);
+        Desks.unchangedWhenFull("to", x -> x.cable(0, 0, 0, -1, 0, 0, 0, 0), UNKNOWN);
+    }
+
+    static void promise15_outsideAheadOfFull() {
+        Desks.unchangedWhenFull("step from", x -> x.cable(0, 0, 5, 0, 0, 0, 0, 0), OUTSIDE);
+        Desks.unchangedWhenFull("step to", x -> x.cable(0, 0, 0, 0, 0, -5, 0, 0), OUTSIDE);
+        Desks.unchangedWhenFull("way", x -> x.cable(0, 0, 0, 0, 0, 0, 8, 0), OUTSIDE);
+        Desks.unchangedWhenFull("rule", x -> x.cable(0, 0, 0, 0, 0, 0, 0, 3), OUTSIDE);
+    }
+
     static void promise15_full() {
         Desks.unchangedWhenFull("cable 12", x -> x.cable(0, 0, 0, 0, 0, 0, 0, 0), CordBoard.FULL);
         CordBoard x = Desks.inUseAndFull();
@@ -389,6 +408,11 @@ public final class Promises15To19Test {
             Desks.unchanged("told(" + cable + ", 0)", withACableOut(), left, x -> x.told(cable, 0), UNKNOWN);
         }
         Check.due("none there", new CordBoard().told(0, 0), UNKNOWN);
+    }
+
+    static void promise19_unknownAheadOfOutside() {
+        Desks.unchanged("told(2, 7)", x -> x.told(2, 7), UNKNOWN);
+        Desks.unchanged("told(-1, -1)", x -> x.told(-1, -1), UNKNOWN);
     }
 
     static void promise19_outsideWhat() {

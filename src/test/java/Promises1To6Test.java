@@ -162,6 +162,14 @@ public final class Promises1To6Test {
         }
     }
 
+    static void promise2_unknownAheadOfOutside() {
+        for (int socket : Desks.NO_SOCKETS) {
+            Desks.unchanged("and no sort", x -> x.plug(socket, 12, 1), UNKNOWN);
+            Desks.unchanged("and too many", x -> x.plug(socket, 4, 17), UNKNOWN);
+            Desks.unchanged("and too few", x -> x.plug(socket, 8, -1), UNKNOWN);
+        }
+    }
+
     // ---- promise 3: knob
 
     static void promise3_numbersFrom0To23() {

@@ -44,6 +44,18 @@ public final class Promises7To9Test {
         }
     }
 
+    static void promise7_unknownAheadOfOutside() {
+        for (int socket : Desks.NO_SOCKETS) {
+            Desks.unchanged("tap(" + socket + ", 0, 8)", x -> x.tap(socket, 0, 8), UNKNOWN);
+        }
+    }
+
+    static void promise7_outsideAheadOfCauses() {
+        Desks.unchanged("of nothing", x -> x.tap(9, 0, 8), OUTSIDE);
+        Desks.unchanged("of a strip", x -> x.tap(0, 0, -1), OUTSIDE);
+        Desks.unchanged("of no place", x -> x.tap(4, 3, 8), OUTSIDE);
+    }
+
     static void promise7_causeEmpty() {
         Desks.unchanged("tap(9, 0, 4)", x -> x.tap(9, 0, 4), EMPTY);
     }
@@ -160,6 +172,21 @@ public final class Promises7To9Test {
         Desks.unchanged("a float", x -> x.dial(8, 0, 6, Desks.FLOAT_NAN), OUTSIDE);
         Desks.unchanged("a double", x -> x.dial(8, 0, 7, Desks.DOUBLE_NAN), OUTSIDE);
         Desks.unchanged("what would have a cause too", x -> x.dial(4, 9, 7, Desks.DOUBLE_NAN), OUTSIDE);
+    }
+
+    static void promise9_unknownAheadOfOutside() {
+        for (int socket : Desks.NO_SOCKETS) {
+            Desks.unchanged("and no kind", x -> x.dial(socket, 0, 8, 5), UNKNOWN);
+            Desks.unchanged("and no number", x -> x.dial(socket, 0, 7, Desks.DOUBLE_NAN), UNKNOWN);
+        }
+    }
+
+    static void promise9_outsideAheadOfCauses() {
+        Desks.unchanged("no kind to nothing", x -> x.dial(9, 0, 8, 5), OUTSIDE);
+        Desks.unchanged("no number to nothing", x -> x.dial(9, 0, 6, Desks.FLOAT_NAN), OUTSIDE);
+        Desks.unchanged("no number to a strip", x -> x.dial(0, 0, 7, Desks.DOUBLE_NAN), OUTSIDE);
+        Desks.unchanged("no number to no place", x -> x.dial(8, 2, 7, Desks.DOUBLE_NAN), OUTSIDE);
+        Desks.unchanged("no number that does not go", x -> x.dial(4, 0, 6, Desks.FLOAT_NAN), OUTSIDE);
     }
 
     static void promise9_causeEmpty() {

@@ -351,6 +351,19 @@ public final class Terms1KindsTest {
         nearest(INT, -16777219, FLOAT, -16777220);
     }
 
+    static void terms1_nearest_wholeThatFitStayAsTheyAre() {
+        long[] narrow = {1L << 23, (1L << 23) + 1, (1L << 24) - 1, 1L << 24, (1L << 24) + 2};
+        for (long whole : narrow) {
+            nearest(INT, whole, FLOAT, whole);
+            nearest(LONG, -whole, FLOAT, -whole);
+        }
+        long[] wide = {1L << 52, (1L << 52) + 1, (1L << 53) - 1, 1L << 53, (1L << 53) + 2};
+        for (long whole : wide) {
+            nearest(LONG, whole, DOUBLE, whole);
+            nearest(LONG, -whole, DOUBLE, -whole);
+        }
+    }
+
     static void terms1_nearest_greatestAndLeastIntToFloat() {
         nearest(INT, Integer.MAX_VALUE, FLOAT, 0x1.0p31);
         nearest(INT, Integer.MIN_VALUE, FLOAT, -0x1.0p31);

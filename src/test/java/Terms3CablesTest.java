@@ -127,6 +127,11 @@ public final class Terms3CablesTest {
         x.plug(1, 5, 1);
         Check.due("tick", x.tick(1), 1);
         Desks.stands(x, 1, 0, 5, 55);
+        x.plug(0, 1, 1);
+        x.dial(0, 0, 1, -56);
+        x.plug(1, 7, 1);
+        Check.due("tick", x.tick(1), 1);
+        Desks.stands(x, 1, 0, 7, Double.doubleToLongBits(-56.0));
     }
 
     static void terms3_tick_betweenSocketsThatShare() {
@@ -139,10 +144,11 @@ public final class Terms3CablesTest {
 
     static void terms3_tick_seenStaysAsItIs() {
         CordBoard x = Desks.ofInts();
-        x.tap(0, 3, 4);
+        x.level(0);
         x.cable(0, 0, 1, 1, 0, 1, 4, 0);
+        x.cable(0, 3, -1, 1, 0, 0, -1, 1);
         x.tick(8);
-        Check.due("seen", x.seen(), 13);
+        Check.due("seen", x.seen(), 46);
     }
 
     // ---- ways
@@ -362,12 +368,12 @@ public final class Terms3CablesTest {
 
     // ---- places go round as ints do
 
-    static void terms3_places_fromGoesRoundAboveTheGreatest() {
+    static void terms3_places_goRoundAboveTheGreatest() {
         goesRound(GREATEST, 1, LEAST);
         goesRound(GREATEST - 1, 4, LEAST + 2);
     }
 
-    static void terms3_places_fromGoesRoundBelowTheLeast() {
+    static void terms3_places_goRoundBelowTheLeast() {
         goesRound(LEAST, -1, GREATEST);
         goesRound(LEAST + 1, -4, GREATEST - 2);
     }
