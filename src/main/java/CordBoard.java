@@ -648,6 +648,8 @@ public final class CordBoard {
 
         private static final int FLOAT_FRACTION = 23, FLOAT_BIAS = 127, FLOAT_TOP = 255;
         private static final int DOUBLE_FRACTION = 52, DOUBLE_BIAS = 1023, DOUBLE_TOP = 2047;
+        private static final long FLOAT_SIGN = 1L << 31, FLOAT_SIZE = FLOAT_SIGN - 1;
+        private static final long DOUBLE_SIGN = 1L << 63, DOUBLE_SIZE = DOUBLE_SIGN - 1;
         private static final long FLOAT_INFINITY = (long) FLOAT_TOP << FLOAT_FRACTION;
         private static final long DOUBLE_INFINITY = (long) DOUBLE_TOP << DOUBLE_FRACTION;
         private static final long REBASE = (long) (DOUBLE_BIAS - FLOAT_BIAS) << DOUBLE_FRACTION;
@@ -674,8 +676,8 @@ public final class CordBoard {
         /** Whether there is such a kind, and the bits are a number of it. */
         static boolean isNumber(int kind, long bits) {
             switch (kind) {
-                case FLOAT: return (bits & Integer.MAX_VALUE) <= FLOAT_INFINITY;
-                case DOUBLE: return (bits & Long.MAX_VALUE) <= DOUBLE_INFINITY;
+                case FLOAT: return (bits & FLOAT_SIZE) <= FLOAT_INFINITY;
+                case DOUBLE: return (bits & DOUBLE_SIZE) <= DOUBLE_INFINITY;
                 default: return isKind(kind);
             }
         }
@@ -686,9 +688,9 @@ public final class CordBoard {
                 return bits;
             }
             switch (other) {
-                case FLOAT: return (int) nearest(bits, FLOAT_FRACTION, FLOAT_BIAS, Integer.MIN_VALUE);
+                case FLOAT: return (int) nearest(bits, FLOAT_FRACTION, FLOAT_BIAS, FLOAT_SIGN);
                 case DOUBLE: return kind == FLOAT ? floatToDouble(bits)
-                        : nearest(bits, DOUBLE_FRACTION, DOUBLE_BIAS, Long.MIN_VALUE);
+                        : nearest(bits, DOUBLE_FRACTION, DOUBLE_BIAS, DOUBLE_SIGN);
                 default: return bits;
             }
         }
@@ -698,7 +700,7 @@ public final class CordBoard {
             if (whole == 0) {
                 return 0;
             }
-            // Long.MIN_VALUE stays as it is here, and is right as a number without sign
+            // the least long stays as it is here, and is right as a number without sign
             long size = whole < 0 ? -whole : whole;
             int top = 63 - Long.numberOfLeadingZeros(size);
             int surplus = top - fraction;
@@ -715,8 +717,8 @@ public final class CordBoard {
         }
 
         private static long floatToDouble(long bits) {
-            long sign = bits < 0 ? Long.MIN_VALUE : 0;
-            long size = bits & Integer.MAX_VALUE;
+            long sign = bits < 0 ? DOUBLE_SIGN : 0;
+            long size = bits & FLOAT_SIZE;
             if (size == 0) {
                 return sign;
             }

@@ -24,13 +24,21 @@ public final class FaceTest {
 
     private static final String[] FORBIDDEN = {"\\bthrow\\b", "\\btry\\b", "\\bcatch\\b", "\\bassert\\b",
         "\\bsynchronized\\b", "->", "::", "\\bimport\\b", "\\bpackage\\b", "\\bprotected\\b", "\\bObject\\b",
-        "\\bFloat\\.", "\\bDouble\\.", "\\bSystem\\.", "Exact\\b", "@"};
+        "\\bfloat\\b", "\\bdouble\\b", "\"", "@"};
+
+    /** All that the program uses of the library that rule 4 leaves. */
+    private static final Set<String> LIBRARY = Set.of("Long.numberOfLeadingZeros");
+
+    private static final int LONGEST_METHOD = 60;
 
     public static void main(String[] args) throws IOException {
         constants();
         publicMethods();
         nothingElseIsSeen();
-        textKeepsToTheRules();
+        String code = codeWithoutComments();
+        noForbiddenWord(code);
+        libraryIsTheListedOne(code);
+        methodsAreShort(code);
         Check.finish();
     }
 
@@ -100,12 +108,41 @@ public final class FaceTest {
         }
     }
 
-    private static void textKeepsToTheRules() throws IOException {
+    private static String codeWithoutComments() throws IOException {
         String text = Files.readString(Path.of("src/main/java/CordBoard.java"));
-        String code = text.replaceAll("(?s)/\\*.*?\\*/", "").replaceAll("//[^\n]*", "");
+        return text.replaceAll("(?s)/\\*.*?\\*/", "").replaceAll("//[^\n]*", "");
+    }
+
+    private static void noForbiddenWord(String code) {
         for (String word : FORBIDDEN) {
-            Matcher matcher = Pattern.compile(word).matcher(code);
-            Check.isTrue("no " + word, !matcher.find());
+            Check.isTrue("no " + word, !Pattern.compile(word).matcher(code).find());
         }
+    }
+
+    private static void libraryIsTheListedOne(String code) {
+        Set<String> own = new TreeSet<>();
+        for (Class<?> inside : CordBoard.class.getDeclaredClasses()) {
+            own.add(inside.getSimpleName());
+        }
+        Matcher use = Pattern.compile("\\b([A-Z]\\w*[a-z]\\w*)\\.(\\w+)").matcher(code);
+        while (use.find()) {
+            Check.isTrue(use.group() + " is of the library that is left",
+                    own.contains(use.group(1)) || LIBRARY.contains(use.group()));
+        }
+    }
+
+    /** A method begins with a line that ends in ') {' at four or eight blanks, and ends at the same ones. */
+    private static void methodsAreShort(String code) {
+        Matcher method = Pattern.compile("(?ms)^(    |        )(\\w[^;{}\\n]*\\)) \\{$.*?^\\1\\}$").matcher(code);
+        int found = 0;
+        while (method.find()) {
+            if (method.group(2).matches("(if|for|switch|while) .*")) {
+                continue;
+            }
+            found++;
+            long lines = method.group().lines().count();
+            Check.isTrue(method.group(2) + " has " + lines + " lines", lines <= LONGEST_METHOD);
+        }
+        Check.isTrue("the methods are found in the text, " + found, found > METHODS.length);
     }
 }
